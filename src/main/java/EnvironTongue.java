@@ -16,7 +16,8 @@ public final class EnvironTongue {
     private static final int TREE_MOST = 200;
     private static final int COMPARISONS_MOST = 10000;
     private static final int NESTING_MOST = 100;
-    private static final int LABELS = 10000;
+    /** No text of the tape's length can have so many. */
+    private static final int LABELS_ROOM = 1024;
     private static final int TEXT_MOST = 1000;
     private static final int MESSAGE_MOST = 200;
     private static final int STRING_MOST = 1000;
@@ -92,18 +93,7 @@ public final class EnvironTongue {
 
     private static final Ground[] GROUNDS = Ground.values();
 
-    private static final String LIBRARY_LISTS =
-        "($define! list* ($lambda (a . l) ($if (null? l) a (cons a (apply list* l)))))($define! caar ($lambda (p) (car (car p)))) ($define! cadr ($lambda (p) (car (cdr p)))) ($define! cdar ($lambda (p) (cdr (car p)))) ($define! cddr ($lambda (p) (cdr (cdr p)))) ($define! caddr ($lambda (p) (car (cddr p))))($define! list-ref ($lambda (l n) (car (list-tail l n))))";
-    private static final String LIBRARY_OPERATIVES =
-        "($define! $when ($vau (t . b) e ($if (eval t e) (eval (cons $sequence b) e) #inert))) ($define! $unless ($vau (t . b) e ($if (eval t e) #inert (eval (cons $sequence b) e))))($define! $let* ($vau (l . b) e (eval ($if (null? l) (list* $let l b) (list $let (list (car l)) (list* $let* (cdr l) b))) e)))($define! $letrec ($vau (l . b) e (eval (list* $let () (list $define! (map car l) (list* list (map cadr l))) b) e)))";
-    private static final String LIBRARY_ENVIRONMENTS =
-        "($define! $let-redirect ($vau (x l . b) e (eval (list* (eval (list* $lambda (map car l) b) (eval x e)) (map cadr l)) e)))($define! $bindings->environment ($vau l e (eval (list $let-redirect (make-environment) l (list $current)) e)))($define! $remote-eval ($vau (x y) e (eval x (eval y e))))($define! $provide! ($vau (s . b) e (eval (list $define! s (list $let () (list* $sequence b) (list* list s))) e)))($define! $import! ($vau (x . s) e (eval (list $set! e s (cons list s)) (eval x e))))";
-    private static final String LIBRARY_FOLDS =
-        "($define! filter ($lambda (f l) ($if (null? l) l ($if (apply f (list (car l))) (cons (car l) (filter f (cdr l))) (filter f (cdr l))))))($define! reduce ($lambda (l f z) ($if (null? l) z ($if (null? (cdr l)) (car l) (f (car l) (reduce (cdr l) f z))))))($define! fold ($lambda (f z l) ($if (null? l) z (fold f (f z (car l)) (cdr l)))))($define! assoc ($lambda (x l) ($cond ((null? l) l) ((equal? x (caar l)) (car l)) (#t (assoc x (cdr l)))))) ($define! member? ($lambda (x l) ($if (null? l) #f ($if (equal? x (car l)) #t (member? x (cdr l))))))($define! for-each ($lambda x ($sequence (apply map x) #inert)))";
-    private static final String LIBRARY_SORTS =
-        "($define! sort ($lambda (f l) ($if (null? l) l ($let ((a (car l)) (r (cdr l))) (append (sort f (filter ($lambda (x) (f x a)) r)) (list a) (sort f (filter ($lambda (x) (not? (f x a))) r)))))))($define! iota ($lambda (n a) ($if (<=? n 0) () (cons a (iota (- n 1) (+ a 1))))))($define! compose ($lambda (f g) ($lambda x (f (apply g x)))))";
-    private static final String LIBRARY_CONTROL =
-        "($define! $while ($vau (t . b) e ($let ((go ($lambda (go) ($when (eval t e) (eval (cons $sequence b) e) (go go))))) (go go))))($define! $stream ($vau (a d) e (cons (eval a e) (eval (list $lazy d) e)))) ($define! stream-head ($lambda (s n) ($if (<=? n 0) () (cons (car s) (stream-head (force (cdr s)) (- n 1))))))($define! call-escape ($lambda (f) (call/cc ($lambda (k) (f ($lambda (x) (throw k x)))))))($define! dynamic-wind ($lambda (a f b) ($sequence (a) ($let ((x (guard-dynamic-extent () f (list (list root ($lambda (v d) ($sequence (b) v))))))) ($sequence (b) x)))))";
+    private static final int LIBRARY_LINES = 23;
 
     private final Text tape;
     private final Machine machine;
@@ -111,19 +101,68 @@ public final class EnvironTongue {
     public EnvironTongue() {
         tape = new Text(new byte[TAPE_ROOM], 0, false);
         machine = new Machine();
-        machine.furnish(tape);
-        tape.length = 0;
-        tape.append(LIBRARY_LISTS);
-        tape.append(LIBRARY_OPERATIVES);
-        tape.append(LIBRARY_ENVIRONMENTS);
-        tape.append(LIBRARY_FOLDS);
-        tape.append(LIBRARY_SORTS);
-        tape.append(LIBRARY_CONTROL);
+        Text buffer = new Text(new byte[TAPE_ROOM], 0, false);
+        machine.furnish(buffer);
+        buffer.length = 0;
+        for (int i = 0; i < LIBRARY_LINES; i++) {
+            buffer.append(library(i));
+        }
         machine.prepare(FUEL_MOST);
-        machine.notation.read(machine, tape);
+        machine.notation.read(machine, buffer);
         machine.work(machine.ground);
         machine.forget();
-        tape.length = 0;
+    }
+
+    /** A line of the document's library. */
+    private static String library(int line) {
+        switch (line) {
+            case 0:
+                return "($define! list* ($lambda (a . l) ($if (null? l) a (cons a (apply list* l)))))";
+            case 1:
+                return "($define! caar ($lambda (p) (car (car p)))) ($define! cadr ($lambda (p) (car (cdr p)))) ($define! cdar ($lambda (p) (cdr (car p)))) ($define! cddr ($lambda (p) (cdr (cdr p)))) ($define! caddr ($lambda (p) (car (cddr p))))";
+            case 2:
+                return "($define! list-ref ($lambda (l n) (car (list-tail l n))))";
+            case 3:
+                return "($define! $when ($vau (t . b) e ($if (eval t e) (eval (cons $sequence b) e) #inert))) ($define! $unless ($vau (t . b) e ($if (eval t e) #inert (eval (cons $sequence b) e))))";
+            case 4:
+                return "($define! $let* ($vau (l . b) e (eval ($if (null? l) (list* $let l b) (list $let (list (car l)) (list* $let* (cdr l) b))) e)))";
+            case 5:
+                return "($define! $letrec ($vau (l . b) e (eval (list* $let () (list $define! (map car l) (list* list (map cadr l))) b) e)))";
+            case 6:
+                return "($define! $let-redirect ($vau (x l . b) e (eval (list* (eval (list* $lambda (map car l) b) (eval x e)) (map cadr l)) e)))";
+            case 7:
+                return "($define! $bindings->environment ($vau l e (eval (list $let-redirect (make-environment) l (list $current)) e)))";
+            case 8:
+                return "($define! $remote-eval ($vau (x y) e (eval x (eval y e))))";
+            case 9:
+                return "($define! $provide! ($vau (s . b) e (eval (list $define! s (list $let () (list* $sequence b) (list* list s))) e)))";
+            case 10:
+                return "($define! $import! ($vau (x . s) e (eval (list $set! e s (cons list s)) (eval x e))))";
+            case 11:
+                return "($define! filter ($lambda (f l) ($if (null? l) l ($if (apply f (list (car l))) (cons (car l) (filter f (cdr l))) (filter f (cdr l))))))";
+            case 12:
+                return "($define! reduce ($lambda (l f z) ($if (null? l) z ($if (null? (cdr l)) (car l) (f (car l) (reduce (cdr l) f z))))))";
+            case 13:
+                return "($define! fold ($lambda (f z l) ($if (null? l) z (fold f (f z (car l)) (cdr l)))))";
+            case 14:
+                return "($define! assoc ($lambda (x l) ($cond ((null? l) l) ((equal? x (caar l)) (car l)) (#t (assoc x (cdr l)))))) ($define! member? ($lambda (x l) ($if (null? l) #f ($if (equal? x (car l)) #t (member? x (cdr l))))))";
+            case 15:
+                return "($define! for-each ($lambda x ($sequence (apply map x) #inert)))";
+            case 16:
+                return "($define! sort ($lambda (f l) ($if (null? l) l ($let ((a (car l)) (r (cdr l))) (append (sort f (filter ($lambda (x) (f x a)) r)) (list a) (sort f (filter ($lambda (x) (not? (f x a))) r)))))))";
+            case 17:
+                return "($define! iota ($lambda (n a) ($if (<=? n 0) () (cons a (iota (- n 1) (+ a 1))))))";
+            case 18:
+                return "($define! compose ($lambda (f g) ($lambda x (f (apply g x)))))";
+            case 19:
+                return "($define! $while ($vau (t . b) e ($let ((go ($lambda (go) ($when (eval t e) (eval (cons $sequence b) e) (go go))))) (go go))))";
+            case 20:
+                return "($define! $stream ($vau (a d) e (cons (eval a e) (eval (list $lazy d) e)))) ($define! stream-head ($lambda (s n) ($if (<=? n 0) () (cons (car s) (stream-head (force (cdr s)) (- n 1))))))";
+            case 21:
+                return "($define! call-escape ($lambda (f) (call/cc ($lambda (k) (f ($lambda (x) (throw k x)))))))";
+            default:
+                return "($define! dynamic-wind ($lambda (a f b) ($sequence (a) ($let ((x (guard-dynamic-extent () f (list (list root ($lambda (v d) ($sequence (b) v))))))) ($sequence (b) x)))))";
+        }
     }
 
     public boolean feed(int a, int b, int c, int d, int e) {
@@ -1412,7 +1451,9 @@ public final class EnvironTongue {
         private int fault;
         /** The label that waits for its list, or NONE. */
         private int awaiting;
-        private final Pair[] labelled = new Pair[LABELS];
+        private final int[] labels = new int[LABELS_ROOM];
+        private final Pair[] labelled = new Pair[LABELS_ROOM];
+        private int labelCount;
         /** The lists that are open while a text is read, or written. */
         private final Pair[] heads = new Pair[GROUPS_ROOM];
         private final Pair[] tails = new Pair[GROUPS_ROOM];
@@ -1423,6 +1464,8 @@ public final class EnvironTongue {
         final Text text = new Text(new byte[TEXT_MOST + 10], 0, false);
         private Pair[] path = new Pair[256];
         private int stamp;
+        /** No pair was marked since the stamp was made, nor changed: what bears it needn't be gone along again. */
+        boolean clean;
 
         Notation(Numbers numbers) {
             this.numbers = numbers;
@@ -1437,9 +1480,7 @@ public final class EnvironTongue {
             dataCount = 0;
             depth = 0;
             awaiting = NONE;
-            for (int i = 0; i < LABELS; i++) {
-                labelled[i] = null;
-            }
+            labelCount = 0;
             for (int i = 0; i <= source.length; i++) {
                 int sort = token();
                 if (sort == FAULTY) {
@@ -1602,15 +1643,24 @@ public final class EnvironTongue {
                     return true;
                 case LABEL:
                     awaiting = labelNumber(tape, from, place);
-                    return awaiting >= 0 && awaiting < LABELS && labelled[awaiting] == null;
+                    return labelCount < LABELS_ROOM && referred(awaiting) == null;
                 case REFERENCE:
-                    int number = labelNumber(tape, from, place);
-                    Pair meant = number >= 0 && number < LABELS ? labelled[number] : null;
+                    Pair meant = referred(labelNumber(tape, from, place));
                     return meant != null && put(meant);
                 default:
                     Value datum = atom(sort, machine);
                     return datum != null && put(datum);
             }
+        }
+
+        /** The list that has the label, or null. */
+        private Pair referred(int label) {
+            for (int i = 0; i < labelCount && i < LABELS_ROOM; i++) {
+                if (labels[i] == label) {
+                    return labelled[i];
+                }
+            }
+            return null;
         }
 
         private boolean opens() {
@@ -1620,10 +1670,12 @@ public final class EnvironTongue {
             heads[depth] = null;
             tails[depth] = null;
             stages[depth] = AT_ITEMS;
-            if (awaiting >= 0 && awaiting < LABELS) {
+            if (awaiting != NONE && labelCount >= 0 && labelCount < LABELS_ROOM) {
                 // What refers to the list from within needs its first pair now.
                 heads[depth] = fixedPair(Ground.NIL);
-                labelled[awaiting] = heads[depth];
+                labels[labelCount] = awaiting;
+                labelled[labelCount] = heads[depth];
+                labelCount++;
             }
             awaiting = NONE;
             depth++;
@@ -1747,11 +1799,11 @@ public final class EnvironTongue {
             text.length = 0;
             mark(value);
             depth = 0;
-            int labels = 0;
+            int given = 0;
             Value next = value;
             for (int i = 0; i < WALK_MOST && text.length <= TEXT_MOST; i++) {
                 if (next instanceof Pair p) {
-                    labels += label(p, labels);
+                    given += label(p, given);
                     next = opened(p);
                 } else if (next != null) {
                     writeAtom(next, plain);
@@ -1770,7 +1822,10 @@ public final class EnvironTongue {
 
         /** Goes along the value, and marks the pairs that stand within themselves. */
         private void mark(Value value) {
-            stamp++;
+            if (!clean) {
+                stamp++;
+                clean = true;
+            }
             int steps = meet(value, 0);
             for (int i = 0; i < WALK_MOST && steps > 0 && steps <= path.length; i++) {
                 Pair p = path[steps - 1];
@@ -1796,7 +1851,10 @@ public final class EnvironTongue {
                 return steps;
             }
             if (p.seen == stamp) {
-                p.tag |= (p.tag & GONE_ALONG) == 0 ? MARKED : 0;
+                if ((p.tag & GONE_ALONG) == 0) {
+                    p.tag |= MARKED;
+                    clean = false;
+                }
                 return steps;
             }
             p.seen = stamp;
@@ -1813,13 +1871,13 @@ public final class EnvironTongue {
         }
 
         /** Writes what stands ahead of a marked pair, or in its place; how many new labels that took. */
-        private int label(Pair p, int labels) {
+        private int label(Pair p, int given) {
             if ((p.tag & MARKED) == 0) {
                 return 0;
             }
             boolean fresh = p.tag >>> LABEL_SHIFT == 0;
             if (fresh) {
-                p.tag |= labels + 1 << LABEL_SHIFT;
+                p.tag |= given + 1 << LABEL_SHIFT;
             }
             text.put('#');
             int number = (p.tag >>> LABEL_SHIFT) - 1;
@@ -2035,16 +2093,14 @@ public final class EnvironTongue {
                             break;
                         default:
                             raise();
-                            break;
                     }
                 }
                 done += doing == DONE ? 1 : 0;
             }
-            finish(done);
-            return done;
+            return finish(done);
         }
 
-        private void finish(int done) {
+        private int finish(int done) {
             if (state == NO_FUEL || state == USED_UP) {
                 told.length = 0;
             } else if (state == FINE && done > 0) {
@@ -2052,6 +2108,7 @@ public final class EnvironTongue {
                 notation.write(value, false);
                 told.add(notation.text);
             }
+            return done;
         }
 
         // ---- what is counted
@@ -3120,6 +3177,7 @@ public final class EnvironTongue {
                 badArguments(g);
                 return;
             }
+            notation.clean = false;
             if (g == Ground.SET_CAR) {
                 p.car = part;
             } else {
