@@ -750,7 +750,7 @@ public final class EnvironTongue {
             trim(to, n);
         }
 
-        /** The length of a row whose digits from the n-th on may be 0. */
+        /** A row's highest digit is not 0, so that lengths tell which row is greater. */
         private static void trim(int[] a, int most) {
             int n = Math.max(0, Math.min(most, a.length - 1));
             while (n > 0 && a[n] == 0) {
