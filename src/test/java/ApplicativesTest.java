@@ -135,6 +135,8 @@ public final class ApplicativesTest {
             text.append("($define! e (make-environment e e))");
         }
         t.fails(text + "(eval ($quote nothing) e)", "unbound: nothing");
+        t.is("(eval ($quote y) (make-environment e b))", "3");
+        t.is("(eval ($quote x) (make-environment e (make-environment) b a))", "2");
     }
 
     private static void capsules() {

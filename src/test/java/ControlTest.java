@@ -130,6 +130,12 @@ public final class ControlTest {
         // From the innermost out.
         t.is("(call/cc ($lambda (k) (guard-dynamic-extent () ($lambda () (guard-dynamic-extent () ($lambda () (throw k 1))"
             + " (list (list root ($lambda (v d) (list v 2)))))) (list (list root ($lambda (v d) (list v 3)))))))", "((1 2) 3)");
+        // A guard without a clause for it lets it by, to the next one.
+        t.is("(call/cc ($lambda (k) (guard-dynamic-extent () ($lambda () (guard-dynamic-extent () ($lambda () (throw k 1)) ()))"
+            + " (list (list root ($lambda (v d) (list v 3)))))))", "(1 3)");
+        // In an environment of its own, which has no parents.
+        t.is("($define! e ($current)) (guard-dynamic-extent () ($lambda () (throw root 1))"
+            + " (list (list root (wrap ($vau (v d) in (list v (applicative? d) (eq? in e) ($binds? in car)))))))", "(1 #t #f #f)");
         // Only those that are left.
         t.is("(guard-dynamic-extent () ($lambda () (+ 1 (call/cc ($lambda (k) (throw k 1))))) (list (list root ($lambda (v d) 100))))", "2");
         t.is("(apply (wrap ($vau (f) e (guard-dynamic-extent () f ()))) (list (unwrap list)))", "()");
