@@ -1484,7 +1484,8 @@ public final class EnvironTongue {
             for (int i = 0; i <= source.length; i++) {
                 int sort = token();
                 if (sort == FAULTY) {
-                    return fault;
+                    // What is wrong within a string says nothing where no string can stand.
+                    return hasRoom(sort) ? fault : from;
                 }
                 if (sort == NOTHING) {
                     return depth > 0 || awaiting != NONE ? source.length : NONE;
@@ -1624,19 +1625,27 @@ public final class EnvironTongue {
             return number;
         }
 
+        private int stage() {
+            return depth > 0 && depth <= NESTING_MOST ? stages[depth - 1] : AT_ITEMS;
+        }
+
+        /** False behind a label, where only ( can stand, or behind a dot's datum, where only ) can. */
+        private boolean hasRoom(int sort) {
+            return awaiting != NONE ? sort == OPEN : stage() != AT_CLOSE || sort == CLOSE;
+        }
+
         /** Puts the token where it belongs; false when it can't stand there, or the machine ended. */
         private boolean stands(int sort, Machine machine) {
-            int stage = depth > 0 && depth <= NESTING_MOST ? stages[depth - 1] : AT_ITEMS;
-            if (awaiting != NONE && sort != OPEN || stage == AT_CLOSE && sort != CLOSE) {
+            if (!hasRoom(sort)) {
                 return false;
             }
             switch (sort) {
                 case OPEN:
                     return opens();
                 case CLOSE:
-                    return closes(stage, machine);
+                    return closes(machine);
                 case DOT:
-                    if (depth == 0 || depth > NESTING_MOST || stage != AT_ITEMS || tails[depth - 1] == null) {
+                    if (depth == 0 || depth > NESTING_MOST || stage() != AT_ITEMS || tails[depth - 1] == null) {
                         return false;
                     }
                     stages[depth - 1] = AT_TAIL;
@@ -1682,8 +1691,8 @@ public final class EnvironTongue {
             return true;
         }
 
-        private boolean closes(int stage, Machine machine) {
-            if (depth <= 0 || depth > NESTING_MOST || stage == AT_TAIL) {
+        private boolean closes(Machine machine) {
+            if (depth <= 0 || depth > NESTING_MOST || stage() == AT_TAIL) {
                 return false;
             }
             Pair head = heads[depth - 1];

@@ -6,6 +6,7 @@ public final class ReadingTest {
         labels();
         faults();
         labelFaults();
+        stringFaults();
         depth();
         counted();
         Tongue.close();
@@ -107,6 +108,39 @@ public final class ReadingTest {
         t.is("($quote #0=(a))", "(a)");
         t.faults("#0#", 0);
         t.is("($quote #0=(b))", "(b)");
+    }
+
+    /** A bad backslash is a fault where it is, unless the string can't stand at all. */
+    private static void stringFaults() {
+        Tongue t = new Tongue();
+        int made = t.x.made();
+        // Behind a dot and its datum.
+        t.faults("(a . b \"\\q\")", 7);
+        t.faults("(a . b \"\\q", 7);
+        t.faults("(a . b\"\\q\")", 6);
+        t.faults("(a . b \"x\")", 7);
+        t.faults("(a . b \"x", 7);
+        t.faults("(a . \"b\" \"cd\\\\\\q\")", 9);
+        t.faults("(a . (b) ; remark\n \"\\q\")", 19);
+        t.faults("((a . b) . c \"\\q\")", 13);
+        // Behind a label.
+        t.faults("#0=\"\\q\"", 3);
+        t.faults("#0= \"\\q", 4);
+        t.faults("#0=\"s\"", 3);
+        t.faults("#0=\"s", 3);
+        t.faults("(a . b #0=\"\\q\")", 7);
+        t.faults("(a . #12=\"xyz\\q\")", 9);
+        Tongue.due("lists that were closed count, strings that can't stand don't", t.x.made() - made, 2 + 1 + 1);
+        // Where a string can stand.
+        t.faults("\"\\q\"", 1);
+        t.faults("(\"\\q\")", 2);
+        t.faults("(a \"\\q\")", 4);
+        t.faults("(a . \"\\q\")", 6);
+        t.faults("(a . \"\\q", 6);
+        t.faults("#0=(\"\\q\")", 5);
+        t.faults("((a . b) \"\\q\")", 10);
+        t.faults("(a . b) \"\\q\"", 9);
+        t.faults("#0=(a) \"\\q\"", 8);
     }
 
     private static void depth() {
