@@ -6,6 +6,9 @@ public final class LibraryTest {
         environments();
         folds();
         control();
+        costs();
+        edges();
+        nothingCounts();
         Tongue.close();
     }
 
@@ -68,5 +71,59 @@ public final class LibraryTest {
         // The library's pairs are fixed, and its names mean what they meant there.
         t.is("($define! car 5) (fold ($vau x e x) 0 (list 1))", "(z (car l))");
         t.fails("(set-car! (fold ($vau x e x) 0 (list 1)) 5)", "bad arguments: set-car!");
+    }
+
+    /** Their pairs are fixed: evaluating them costs what it says, nothing for lists. */
+    private static void costs() {
+        Tongue.costs("($define! x ($quote ((1))))", "(caar x)", "1", 3 + 5, 2 + 1 + 2 + 1 + 1);
+        Tongue.costs("", "(list* 1)", "1", 3 + 6, 2 + 1 + 3 + 1);
+        Tongue.costs("", "($when #t 1)", "1", 2 + 2 + 5 + 7 + 3, 3 + 4 + 2 + 3 + 2);
+        Tongue.costs("", "($unless #t 1)", "#inert", 2 + 2 + 5 + 1, 3 + 4 + 2);
+        Tongue.costs("", "(iota 0 5)", "()", 4 + 7, 3 + 2 + 3 + 2);
+        Tongue.costs("", "(iota 1 5)", "(5)", 4 + 6 + 13 + 7, 24);
+        // list* calls itself by apply twice; the one loose pair behind $let costs one, too.
+        Tongue.costs("", "($let* ())", "#inert", 2 + 2 + 5 + 5 + 13 + 13 + 6 + 1 + 3, 2 + 4 + 1 + 3 + 7 + 7 + 4 + 3 + 3 + 2 + 1);
+    }
+
+    /** Each name at the end of what it takes. */
+    private static void edges() {
+        Tongue t = new Tongue();
+        t.is("(list (filter odd? ()) (filter odd? (list 2)) (filter odd? (list 1)))", "(() () (1))");
+        t.fails("(filter ($lambda (x) x) (list 1))", "not a truth: 1");
+        t.fails("(filter odd? 5)", "bad arguments: car");
+        t.is("(list (reduce () + 7) (reduce (list 5) + 7) (reduce (list 5 6) + 7))", "(7 5 11)");
+        t.is("(list (fold + 7 ()) (fold + 7 (list 1)))", "(7 8)");
+        t.is("(list (assoc 1 ()) (assoc 1 ($quote ((1)))) (assoc 2 ($quote ((1)))))", "(() (1) ())");
+        t.is("(list (member? 1 ()) (member? 1 (list 1)) (member? 2 (list 1)))", "(#f #t #f)");
+        t.is("(list (iota 0 1) (iota 1 1) (iota -1 1) (iota 1/2 1) (iota 3/2 1))", "(() (1) () (1) (1 2))");
+        t.is("(list (sort <? ()) (sort <? (list 1)) (sort <? (list 2 1)) (sort <=? (list 1 1)))", "(() (1) (1 2) (1 1))");
+        t.is("(list (list-ref (list 1 2) 0) (list-ref (list 1 2) 1))", "(1 2)");
+        t.fails("(list-ref (list 1 2) 2)", "bad arguments: car");
+        t.fails("(list-ref (list 1 2) 3)", "bad arguments: list-tail");
+        t.fails("(list-ref (list 1 2) -1)", "bad arguments: list-tail");
+        t.is("(list (stream-head 5 0) (car ($stream 1 (car 2))))", "(() 1)");
+        t.fails("(stream-head ($stream 1 (car 2)) 1)", "bad arguments: car");
+        t.is("(list ($while #f 1) ($when #f nothing) ($unless #t nothing) ($let* ()) ($letrec () 5))", "(#inert #inert #inert #inert 5)");
+        t.fails("($while 5 1)", "not a truth: 5");
+        t.fails("($when)", "mismatch");
+        t.fails("(caar (list 1))", "bad arguments: car");
+        t.fails("(caar)", "mismatch");
+        t.is("(for-each show ())", "#inert");
+        t.fails("(for-each show)", "bad arguments: map");
+        t.is("(call-escape ($lambda (out) 5))", "5");
+        t.is("((compose - +))", "0");
+        t.is("(list (environment? ($bindings->environment)) ($binds? ($bindings->environment (a 1)) a) ($binds? ($bindings->environment (a 1)) car))", "(#t #t #f)");
+    }
+
+    private static void nothingCounts() {
+        Tongue t = new Tongue();
+        Tongue.due("fuel and MADE of a new object", t.x.fuel() + t.x.made() + t.x.bindings(), 0);
+        for (String name : new String[] {"list*", "caar", "cadr", "cdar", "cddr", "caddr", "list-ref", "filter", "reduce", "fold", "assoc", "member?", "for-each", "sort", "iota", "compose",
+            "stream-head", "call-escape", "dynamic-wind"}) {
+            Tongue.fresh(name, "#applicative");
+        }
+        for (String name : new String[] {"$when", "$unless", "$let*", "$letrec", "$let-redirect", "$bindings->environment", "$remote-eval", "$provide!", "$import!", "$while", "$stream"}) {
+            Tongue.fresh(name, "#operative");
+        }
     }
 }
