@@ -9,6 +9,7 @@ public final class EdgesOfApplicativesTest {
 
     public static void main(String[] args) {
         numbersOfArguments();
+        numbersOfRightSorts();
         sortsOfArguments();
         sortsOfNumbers();
         argumentsOfTheirMakers();
@@ -23,6 +24,7 @@ public final class EdgesOfApplicativesTest {
         comparisonsOfNumbers();
         sameness();
         tenThousandComparisons();
+        deepComparisons();
         mapRounds();
         stringsOfAThousand();
         names();
@@ -78,6 +80,51 @@ public final class EdgesOfApplicativesTest {
         }
         if (most < ANY) {
             Tongue.freshFails("(" + name + " 1".repeat(1000) + ")", "bad arguments: " + name);
+        }
+    }
+
+    /** Arguments of the right sorts: as many as are due are taken; one less, or the last one once more, are refused. */
+    private static void numbersOfRightSorts() {
+        String[][] calls = {{"eval", "1", "($current)"}, {"wrap", "$if"}, {"unwrap", "car"}, {"cons", "1", "2"}, {"car", "(list 1)"}, {"cdr", "(list 1)"},
+            {"set-car!", "(list 1)", "(list 1)"}, {"set-cdr!", "(list 1)", "(list 1)"}, {"length", "(list 1)"}, {"reverse", "(list 1)"}, {"list-tail", "(list 1)", "0"},
+            {"div", "5", "2"}, {"mod", "5", "2"}, {"numerator", "1/2"}, {"denominator", "1/2"}, {"abs", "5"}, {"floor", "5"}, {"ceiling", "5"}, {"truncate", "5"}, {"round", "5"},
+            {"expt", "2", "2"}, {"zero?", "0"}, {"positive?", "0"}, {"negative?", "0"}, {"even?", "0"}, {"odd?", "0"}, {"not?", "#t"}, {"eq?", "1", "1"}, {"equal?", "1", "1"},
+            {"null?", "()"}, {"pair?", "()"}, {"number?", "()"}, {"integer?", "()"}, {"boolean?", "()"}, {"symbol?", "()"}, {"string?", "()"}, {"inert?", "()"}, {"ignore?", "()"},
+            {"environment?", "()"}, {"combiner?", "()"}, {"operative?", "()"}, {"applicative?", "()"}, {"continuation?", "()"}, {"promise?", "()"}, {"call/cc", "list"},
+            {"throw", "root", "root"}, {"continuation->applicative", "root"}, {"guard-dynamic-extent", "()", "list", "()"}, {"string-length", "\"a\""},
+            {"symbol->string", "($quote a)"}, {"string->symbol", "\"a\""}, {"string->number", "\"1\""}, {"force", "1"}, {"memoize", "1"}};
+        for (String[] call : calls) {
+            takesSoMany("", call, call.length - 1, call.length - 1);
+        }
+        takesSoMany("", new String[] {"extend-continuation", "root", "list", "($current)"}, 2, 3);
+        takesSoMany("", new String[] {"apply", "list", "()", "($current)"}, 2, 3);
+        takesSoMany("", new String[] {"number->string", "5", "10"}, 1, 2);
+        for (String name : new String[] {"make-dynamic", "make-static", "make-capsule", "newline"}) {
+            Tongue.freshFails("(" + name + " ())", "bad arguments: " + name);
+        }
+        String d = "($define! (din dout) (make-dynamic)) ($define! (sin sout) (make-static)) ($define! (cin is cout) (make-capsule))";
+        takesSoMany(d, new String[] {"din", "list", "list"}, 2, 2);
+        takesSoMany(d, new String[] {"sin", "($current)", "($current)"}, 2, 2);
+        takesSoMany(d, new String[] {"cin", "1"}, 1, 1);
+        takesSoMany(d, new String[] {"is", "1"}, 1, 1);
+        takesSoMany(d, new String[] {"cout", "(cin 1)"}, 1, 1);
+        Tongue.with(d).fails("(din 1 ($lambda () (dout 1)))", "bad arguments: dynamic");
+        Tongue.with(d).fails("(eval ($quote (sout 1)) (sin 1 ($current)))", "bad arguments: static");
+    }
+
+    /** Least to most of the arguments are taken, other numbers of them refused. */
+    private static void takesSoMany(String definitions, String[] call, int least, int most) {
+        for (int n = 0; n <= most + 2; n++) {
+            StringBuilder text = new StringBuilder("(" + call[0]);
+            for (int i = 1; i <= n; i++) {
+                text.append(' ').append(call[Math.min(i, call.length - 1)]);
+            }
+            Tongue t = Tongue.with(definitions);
+            t.run(text + ")");
+            Tongue.due("state of " + text + ")", t.x.state(), n < least || n > most ? 1 : 0);
+            if (n < least || n > most) {
+                Tongue.due("message of " + text + ")", t.told().startsWith("bad arguments: ") ? 1 : 0, 1);
+            }
         }
     }
 
@@ -345,6 +392,7 @@ public final class EdgesOfApplicativesTest {
         t.is("(list (+ 5) (* 5) (gcd 5) (lcm 5) (- 5) (/ 5) (min 5) (max 5))", "(5 5 5 5 -5 1/5 5 5)");
         t.is("(list (+ -5) (* -5) (gcd -5) (lcm -5) (- -5) (/ -5) (abs -5))", "(-5 -5 5 5 5 -1/5 5)");
         t.is("(list (gcd 0) (gcd 0 0) (gcd 0 -7) (gcd -4 6) (lcm 0) (lcm 0 0) (lcm 0 -7) (lcm -4 6) (lcm -1) (lcm 1 -1))", "(0 0 7 2 0 0 0 12 1 1)");
+        t.is("(list (min 1 3 2) (max 3 1 2) (min 2 1 3 2) (max 2 3 1 2) (min 1/3 1/2 2/5))", "(1 3 1 3 1/3)");
         t.is("(list (min 1/2 1/3) (max 1/2 1/3) (min 2 2) (max -1 -1/2 -2) (min 3 2 1 2 3))", "(1/3 1/2 2 -1/2 1)");
     }
 
@@ -417,6 +465,21 @@ public final class EdgesOfApplicativesTest {
         w.fails("(equal? ($quote #0=(1 . #0#)) ($quote #1=(1 1 . #1#)))", "bad arguments: equal?");
         // In cars as in cdrs.
         w.fails("(equal? ($quote #0=(#0#)) ($quote #1=(#1#)))", "bad arguments: equal?");
+    }
+
+    /** Deep cars: what stands in the cdrs is compared when they are done. */
+    private static void deepComparisons() {
+        String d = "($define! nest ($lambda (n x y) ($if (zero? n) x (nest (- n 1) (list x y) y))))";
+        for (int n : new int[] {1, 2, 100, 127, 128, 129, 255, 256, 257, 500, 600}) {
+            Tongue t = Tongue.with(d);
+            t.is("(equal? (nest " + n + " 1 2) (nest " + n + " 1 2))", "#t");
+            t = Tongue.with(d);
+            t.is("(equal? (nest " + n + " 1 2) (nest " + n + " 3 2))", "#f");
+            t = Tongue.with(d);
+            t.is("(equal? (list (nest " + n + " 1 2) 7) (list (nest " + n + " 1 2) 8))", "#f");
+            t = Tongue.with(d);
+            t.is("(equal? (nest " + n + " 1 2) (nest " + n + " 1 3))", "#f");
+        }
     }
 
     // ---- map
@@ -555,6 +618,22 @@ public final class EdgesOfApplicativesTest {
         t.is("($define! r ($lazy (once))) ($define! s ($lazy r)) (list (force s) (force r) n (eq? r s))", "(3 3 3 #f)");
         t.is("($define! r ($lazy (once))) ($define! s ($lazy r)) (list (force r) (force s) n)", "(4 4 4)");
         t.is("($define! s ($lazy (memoize p))) (list (eq? p (force s)) (eq? p (force s)))", "(#t #t)");
+        // Its x is not evaluated again: it goes by the other one, also before that one has a value.
+        t.is("($define! r ($lazy 6)) ($define! s ($lazy ($sequence (show 1) r))) (list (force s) (force s) (force r))", "(6 6 6)");
+        Tongue.due("x was evaluated once", t.out(), "1");
+        t.is("($define! ready #f) ($define! r ($lazy ($if ready 7 (error \"not yet\")))) ($define! s ($lazy ($sequence (show 1) r)))"
+            + "($guard (force s) ($lambda (m) (show m))) ($define! ready #t) (list (force s) (force r))", "(7 7)");
+        Tongue.due("x was evaluated once", t.out(), "1not yet");
+        t.is("($define! ready #f) ($define! r ($lazy ($if ready ($sequence (show 2) 7) (error \"not yet\")))) ($define! s ($lazy ($sequence (show 1) r)))"
+            + "($guard (force s) ($lambda (m) 0)) ($define! ready #t) (list (force r) (force s))", "(7 7)");
+        Tongue.due("the value that that one gets", t.out(), "12");
+        t.is("($define! a ($lazy ($sequence (show 1) b))) ($define! b ($lazy ($sequence (show 2) c))) ($define! c ($lazy ($sequence (show 3) 8)))"
+            + "(list (force a) (force b) (force c) (force a))", "(8 8 8 8)");
+        Tongue.due("in a row", t.out(), "123");
+        t.run("($define! own ($lazy own)) (force own)", 100);
+        Tongue.due("one that goes by itself has no value", t.x.state(), 2);
+        t.run("($define! one ($lazy two)) ($define! two ($lazy one)) (force one)", 100);
+        Tongue.due("nor have two that go by one another", t.x.state(), 2);
         // A promise that has got a value meanwhile keeps that.
         t.is("($define! m 0) ($define! r ($lazy ($sequence ($set! e m (+ m 1)) ($let ((x m)) ($if (<? m 5) (force r) #inert) x)))) (list (force r) (force r) m)", "(5 5 5)");
         // An error leaves it without a value.

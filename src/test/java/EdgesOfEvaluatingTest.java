@@ -440,10 +440,24 @@ public final class EdgesOfEvaluatingTest {
         // The body of a combiner, for all calls; what is deeper is as it is then.
         t.is("($define! deep (list list 1)) ($define! body (list 5 deep)) ($define! f (eval (list* $lambda () body) e)) (set-cdr! body ()) (f)", "(1)");
         t.is("(set-cdr! deep (list 2 3)) (f)", "(2 3)");
+        treesAsTheyStand(t);
         // The operands that $vau's operative gets are those that stand there.
         t.is("($define! ops (list 1 2)) ($define! f ($vau x #ignore x)) (eq? ops (eval (cons f ops) e))", "#t");
         t.is("($define! g ($vau (x . y) #ignore (set-cdr! ops ()) y)) (eval (cons g ops) e)", "(2)");
         // Arguments become a list of their own.
         t.is("($define! ops (list 1 2)) ($define! v (eval (cons list ops) e)) (set-car! ops 9) v", "(1 2)");
+    }
+
+    /** All pairs of a tree, in cars and in cdrs, for all calls. */
+    private static void treesAsTheyStand(Tongue t) {
+        t.run("($define! inner (list ($quote b) ($quote c))) ($define! last (list ($quote f) ($quote g))) ($define! tree (list* (list ($quote a) inner) (list ($quote d)) last))");
+        t.run("($define! f (eval (list $lambda tree ($quote (list a b c d f g))) e)) ($define! v (eval (list $vau tree #ignore ($quote (list a b c d f g))) e))");
+        t.is("(f (list 1 (list 2 3)) (list 4) 5 6)", "(1 2 3 4 5 6)");
+        String[] changes = {"(set-car! inner ($quote x))", "(set-cdr! (cdr inner) ($quote x))", "(set-car! (cadr tree) ($quote y))", "(set-cdr! (car tree) ($quote z))", "(set-car! last ())",
+            "(set-cdr! (cdr last) ($quote x))", "(set-cdr! last 7)", "(set-car! tree 5)", "(set-cdr! tree ())"};
+        for (String change : changes) {
+            t.is(change + " (f (list 1 (list 2 3)) (list 4) 5 6)", "(1 2 3 4 5 6)");
+            t.is("(v (1 (2 3)) (4) 5 6)", "(1 2 3 4 5 6)");
+        }
     }
 }

@@ -19,6 +19,7 @@ public final class EdgesOfPassingTest {
         ends();
         sameFrames();
         extendedOnes();
+        clausesAsTheyStand();
         dynamics();
         statics();
         environmentsOfCombiners();
@@ -41,6 +42,9 @@ public final class EdgesOfPassingTest {
         Tongue.fresh("(guard-dynamic-extent (list (list root list)) ($lambda () (throw root 5)) ())", "5");
         Tongue.fresh("(guard-dynamic-extent () ($lambda () (call/cc ($lambda (k) (throw k 5)))) (list (list root list)))", "5");
         Tongue.fresh("(guard-dynamic-extent (list (list root list)) ($lambda () (list 1 (call/cc ($lambda (k) (throw k 5))))) (list (list root list)))", "(1 5)");
+        // Lists that look like clauses are none where no guard has them.
+        Tongue.fresh("(list (list root ($lambda (v d) 9)) (throw root 1))", "1");
+        Tongue.fresh("($let ((a (list (list root ($lambda (v d) 9))))) (list a (throw root 1)))", "1");
         // What comes by itself is not passed.
         Tongue.fresh("(guard-dynamic-extent (list (list root list)) ($lambda () 5) (list (list root list)))", "5");
     }
@@ -258,6 +262,20 @@ public final class EdgesOfPassingTest {
         // Combined in a new environment each time, or in e.
         t.is("(throw (extend-continuation root (wrap ($vau x d ($binds? d car)))) ())", "#f");
         t.is("(throw (extend-continuation root (wrap ($vau x d (eq? d e))) e) ())", "#t");
+    }
+
+    /** "lists and clauses as they stand": entries and exits, each of them, the first and the others. */
+    private static void clausesAsTheyStand() {
+        String d = E + "($define! h (extend-continuation root list)) ($define! c1 (list h ($lambda (v d) 1))) ($define! c2 (list root ($lambda (v d) (list v 2))))"
+            + " ($define! l (list c1 c2)) ";
+        String[] changes = {"(set-car! c2 5)", "(set-car! c2 h)", "(set-car! (cdr c2) ($lambda (v d) 9))", "(set-cdr! c2 ())", "(set-cdr! l ())", "(set-car! (cdr l) c1)", "(set-car! c1 root)",
+            "(set-car! (cdr c1) 5)", "(set-car! l c2)", "(set-cdr! (cdr l) 5)"};
+        for (String change : changes) {
+            Tongue t = Tongue.with(d);
+            t.is("(guard-dynamic-extent () ($lambda () ($sequence " + change + " (throw root 0))) l)", "(0 2)");
+            Tongue u = Tongue.with(d + "(guard-dynamic-extent l ($lambda () " + KEEP + ") ())" + change);
+            u.is("(throw k 0)", "(0 2)");
+        }
     }
 
     // ---- make-dynamic and make-static

@@ -141,6 +141,12 @@ public final class EdgesOfReadingTest {
         Tongue.fresh("($quote(a(b)\"c\"d.e(). f))", "(a (b) \"c\" d.e () . f)");
         Tongue.fresh("($quote(a .(b .\"c\")))", "(a b . \"c\")");
         Tongue.fresh("($quote(#0=(a)#0#(b)#1=(c)#1#\"d\"))", "((a) (a) (b) (c) (c) \"d\")");
+        Tongue.fresh("($quote((a). b))", "((a) . b)");
+        Tongue.fresh("($quote(\"a\". b))", "(\"a\" . b)");
+        Tongue.fresh("($quote(\"a\".\"b\"))", "(\"a\" . \"b\")");
+        Tongue.fresh("($quote((a).(b)))", "((a) b)");
+        Tongue.fresh("($quote((a).b (c)))", "((a) .b (c))");
+        Tongue.fresh("($quote(().;\nb))", "(() . b)");
         // Those that can, do.
         Tongue.fresh("($quote (1a a1 1#t a#0# +1 1+1 .1 1. t#f))", "(1a a1 1#t a#0# +1 1+1 .1 1. t#f)");
         Tongue.freshFaults("#t#f", 0);
@@ -227,7 +233,8 @@ public final class EdgesOfReadingTest {
             Tongue.fresh("($quote #" + n + "=(a #" + n + "#))", "#0=(a #0#)");
             Tongue.freshFaults("#" + n + "#", 0);
         }
-        for (String n : new String[] {"", "00000", "10000", "99999", "00001", "123456", "-1", "+1", " 1", "1 ", "a", "1a", "a1", "0x1", "1/1"}) {
+        for (String n : new String[] {"", "00000", "10000", "99999", "00001", "123456", "-1", "+1", " 1", "1 ", "a", "1a", "a1", "0x1", "1/1", ":",
+            "1:", "/", "1/"}) {
             Tongue.freshFaults("#" + n + "=(a)", 0);
             Tongue.freshFaults("(#1=(a) #" + n + "#)", 8);
         }

@@ -261,6 +261,10 @@ public final class EdgesOfTextTest {
             t.is("(string-length ($guard (error \"" + s + "\") ($lambda (m) m)))", "" + Math.min(200, n));
         }
         Tongue.freshFails("(error" + " 1".repeat(500) + ")", "1 ".repeat(100));
+        // One that was taken leaves nothing behind.
+        Tongue t = new Tongue();
+        t.run("($guard (error \"" + "e".repeat(300) + "\") ($lambda (m) 1)) (show 2 3) ($guard (error) ($lambda (m) (write m)))");
+        Tongue.due("out behind an error", t.out(), "2 3\"\"");
     }
 
     // ---- "OUTPUT of a run has room for 4096 bytes; what doesn't fit is left out (byte by byte)."

@@ -23,6 +23,8 @@ public final class EdgesOfValuesTest {
         listsOfOperatives();
         listsOfArguments();
         listsOfClauses();
+        theLastOfAThousand();
+        lastClauses();
         whatIsNoList();
         fixedPairs();
         symbolsAreOne();
@@ -328,6 +330,84 @@ public final class EdgesOfValuesTest {
         t.fails("(guard-dynamic-extent () list m)", "bad arguments: guard-dynamic-extent");
     }
 
+    /** Behind the definitions of l, its 1000 pairs but for the last one's car, which is x. */
+    private static String endsWith(String x) {
+        return "(append (cdr l) (list " + x + "))";
+    }
+
+    /** The thousandth is looked at like the others. */
+    private static void theLastOfAThousand() {
+        Tongue t = Tongue.with(LONG);
+        t.is("(apply + " + endsWith("5") + ")", "1004");
+        t.is("(apply * " + endsWith("5") + ")", "5");
+        t.is("(apply - " + endsWith("5") + ")", "-1002");
+        t.is("(apply max " + endsWith("5") + ")", "5");
+        t.is("(apply min " + endsWith("-5") + ")", "-5");
+        t.is("(apply =? " + endsWith("5") + ")", "#f");
+        t.is("(apply >=? " + endsWith("1") + ")", "#t");
+        Tongue u = Tongue.with(LONG);
+        for (String f : new String[] {"+", "-", "gcd", "lcm", "max", "<?"}) {
+            u.fails("(apply " + f + " " + endsWith("#t") + ")", "bad arguments: " + f);
+        }
+        Tongue m = Tongue.with(LONG);
+        m.is("(list-ref (map - " + endsWith("5") + ") 999)", "-5");
+        m.is("(list-ref " + endsWith("5") + " 999)", "5");
+        m.is("(car (reverse " + endsWith("5") + "))", "5");
+        m.is("(list-ref (append " + endsWith("5") + " ()) 999)", "5");
+        Tongue e = Tongue.with(LONG);
+        e.is("(eval (cons + " + endsWith("5") + ") e)", "1004");
+        e.is("(eval (cons $sequence " + endsWith("5") + ") e)", "5");
+        e.is("(list-ref (eval (cons list " + endsWith("5") + ") e) 999)", "5");
+        e.fails("(eval (cons + " + endsWith("($quote nothing)") + ") e)", "unbound: nothing");
+        Tongue s = Tongue.with(longOf("\"s\""));
+        s.is("(string-length (apply string-append " + endsWith("\"t\"") + "))", "1000");
+        s.fails("(apply string-append " + endsWith("\"tt\"") + ")", "bad arguments: string-append");
+        s.fails("(apply string-append " + endsWith("5") + ")", "bad arguments: string-append");
+        s.run("(apply show " + endsWith("5") + ")");
+        Tongue.due("the last one is shown", s.out().substring(1990), "s s s s 5");
+        Tongue v = Tongue.with("($define! v (make-environment))" + longOf("v") + "($define! w (make-environment)) ($set! w x 5)");
+        v.is("(eval ($quote x) (apply make-environment " + endsWith("w") + "))", "5");
+        v.fails("(apply make-environment " + endsWith("5") + ")", "bad arguments: make-environment");
+        Tongue a = Tongue.with(longOf("()"));
+        a.is("(apply append " + endsWith("5") + ")", "5");
+        a.is("(apply append (append (cdr (cdr l)) (list (list 1 2)) (list 5)))", "(1 2 . 5)");
+        a.fails("(apply append (append (cdr (cdr l)) (list 7) (list 5)))", "bad arguments: append");
+        // map: f and 999 lists.
+        Tongue f = Tongue.with(longOf("($quote (1))"));
+        f.is("(apply map (cons + (cdr l)))", "(999)");
+        f.is("(apply map (cons + (append (cdr (cdr l)) (list ($quote (5))))))", "(1003)");
+        f.fails("(apply map (cons + (append (cdr (cdr l)) (list ()))))", "bad arguments: map");
+        f.fails("(apply map (cons + l))", "bad arguments: map");
+    }
+
+    private static void lastClauses() {
+        Tongue c = Tongue.with(longOf("($quote (#f 1))"));
+        c.is("(eval (cons $cond " + endsWith("($quote (#t 7))") + ") e)", "7");
+        c.fails("(eval (cons $cond " + endsWith("()") + ") e)", "bad operands: $cond");
+        Tongue d = Tongue.with(longOf("($quote (#f 1))") + "($define! c (list #t 7))");
+        d.is("(eval (cons $cond (append (list ($quote (($sequence (set-cdr! c (list 8)) #f)))) (cdr (cdr l)) (list c))) e)", "7");
+        Tongue b = Tongue.with(longOf("($quote (x 1))"));
+        b.is("(eval (list $let " + endsWith("($quote (x 7))") + " ($quote x)) e)", "7");
+        b.is("(eval (list $let " + endsWith("(list (list ($quote y)) ($quote ($quote (7))))") + " ($quote y)) e)", "7");
+        Tongue g = Tongue.with(longOf("($quote (x 1))"));
+        g.fails("(eval (list $let " + endsWith("5") + " ($quote x)) e)", "bad operands: $let");
+        g.fails("(eval (list $let " + endsWith("($quote (x 1 2))") + " ($quote x)) e)", "bad operands: $let");
+        g.fails("(eval (list $let " + endsWith("($quote (5 1))") + " 1) e)", "bad tree");
+        Tongue h = Tongue.with(longOf("($quote (x 1))") + "($define! r (list ($quote y)))");
+        h.is("(eval (list $let " + endsWith("(list r ($quote ($sequence (set-car! r ($quote z)) (list 6))))") + " ($quote y)) e)", "6");
+        Tongue k = Tongue.with("($define! c (list (extend-continuation root list) list))" + longOf("c") + "($define! f ($lambda () (throw root 3)))");
+        k.is("(guard-dynamic-extent () f l)", "3");
+        k.is("(guard-dynamic-extent () f " + endsWith("(list root ($lambda (v d) (list v 7)))") + ")", "(3 7)");
+        k.fails("(guard-dynamic-extent () f " + endsWith("(list root 5)") + ")", "bad arguments: guard-dynamic-extent");
+        k.fails("(guard-dynamic-extent " + endsWith("5") + " f ())", "bad arguments: guard-dynamic-extent");
+        Tongue n = Tongue.with("($define! s 1)" + longOf("($quote s)"));
+        n.is("(eval (cons $binds? (cons e (append (cdr (cdr l)) (list ($quote nothing))))) e)", "#f");
+        n.fails("(eval (cons $binds? (cons e (append (cdr (cdr l)) (list 5)))) e)", "bad arguments: $binds?");
+        Tongue q = Tongue.with(longOf("#t"));
+        q.is("(eval (cons $and? " + endsWith("#f") + ") e)", "#f");
+        q.fails("(eval (cons $and? " + endsWith("5") + ") e)", "not a truth: 5");
+    }
+
     private static void whatIsNoList() {
         Tongue t = Tongue.with("($define! e ($current)) ($define! x (list 1 2)) (set-cdr! (cdr x) x)");
         t.fails("(length x)", "bad arguments: length");
@@ -411,6 +491,15 @@ public final class EdgesOfValuesTest {
         Tongue t = Tongue.with("($define! v (make-environment))" + longOf("v") + "($define! w (make-environment)) ($set! w x 5)");
         t.is("(eval ($quote x) (apply make-environment (append (cdr l) (list w))))", "5");
         t.fails("(eval ($quote y) (apply make-environment (append (cdr l) (list w))))", "unbound: y");
+        // Whichever of many it is; those that wait behind a parent with many parents, too.
+        Tongue p = Tongue.with("($define! v (make-environment)) ($define! w (make-environment)) ($set! w x 5) ($set! v y 1)" + longOf("(make-environment)"));
+        for (int at : new int[] {0, 1, 2, 62, 63, 64, 65, 66, 99}) {
+            p.is("(eval ($quote x) (apply make-environment (append (list-tail b " + (100 - at) + ") (list w) b)))", "5");
+        }
+        p.is("($define! many (apply make-environment b)) (eval ($quote x) (make-environment many v w))", "5");
+        p.is("(eval ($quote x) (make-environment (make-environment many many) many (make-environment v many w)))", "5");
+        p.is("(eval ($quote (list x y)) (make-environment many (make-environment many v) (make-environment w) ($current)))", "(5 1)");
+        p.is("($define! z 9) (eval ($quote (list x z)) (make-environment (apply make-environment (append b (list w))) many ($current)))", "(5 9)");
         // A long row of children.
         Tongue u = Tongue.with("($define! down ($lambda (n e) ($if (zero? n) e (down (- n 1) (make-environment e))))) ($define! top (make-environment))"
             + " ($set! top x 6) ($define! low (down 900 top))");

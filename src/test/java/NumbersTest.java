@@ -12,6 +12,8 @@ public final class NumbersTest {
         limits();
         order();
         counted();
+        divisions();
+        atTheEndsOfRows();
         Random random = new Random(7);
         for (int i = 0; i < 250; i++) {
             randomOnes(random);
@@ -135,6 +137,53 @@ public final class NumbersTest {
         // What comes on the way does not count.
         t.takes("(- (expt 2 64) b 0)", 4 + 4, 4 + 3 + 2 + 3 + 3);
         t.takes("(+ f 1/3 1/3)", 5, 4 + 6 + 3);
+    }
+
+    /** Those where a digit of the quotient that is guessed by the highest digits is one too great, in rows of 30 bits. */
+    private static void divisions() {
+        String[] x = {"713623847017593938421600921753111850634969087", "713623847017593939659540961038492124460351488",
+            "713623846352979940529142988183512084159397891", "2475880077417839047875756033", "664613997892457935298982025533325315",
+            "2658455990331891707675155349731540991"};
+        String[] y = {"664613999130397977466666061949566979", "664613999130397978043126818011086847", "664613999130397978619587566556413951",
+            "1237940038708919524206313473", "618970020219150889216114688", "1329227995165945854414038426900758528"};
+        for (int i = 0; i < x.length; i++) {
+            BigInteger a = new BigInteger(x[i]);
+            BigInteger b = new BigInteger(y[i]);
+            for (int shift = 0; shift < 61; shift++) {
+                // Behind other digits, and not in their places.
+                BigInteger above = a.add(b.shiftLeft(60 + shift));
+                BigInteger low = b.shiftLeft(shift);
+                BigInteger high = a.shiftLeft(shift);
+                Tongue t = new Tongue();
+                t.is("(list (div " + a + " " + b + ") (mod " + a + " " + b + "))", "(" + a.divide(b) + " " + a.mod(b) + ")");
+                t.is("(list (div " + above + " " + b + ") (mod " + above + " " + b + "))", "(" + above.divide(b) + " " + above.mod(b) + ")");
+                t.is("(list (div " + high + " " + low + ") (mod " + high + " " + low + "))", "(" + high.divide(low) + " " + high.mod(low) + ")");
+            }
+        }
+    }
+
+    /** Where numbers begin to need one row more: each with each. */
+    private static void atTheEndsOfRows() {
+        int[] powers = {0, 1, 29, 30, 31, 32, 59, 60, 62, 63, 64, 90, 128};
+        BigInteger[] numbers = new BigInteger[6 * powers.length];
+        for (int i = 0; i < powers.length; i++) {
+            for (int j = 0; j < 3; j++) {
+                numbers[6 * i + 2 * j] = BigInteger.TWO.pow(powers[i]).add(BigInteger.valueOf(j - 1));
+                numbers[6 * i + 2 * j + 1] = numbers[6 * i + 2 * j].negate();
+            }
+        }
+        for (BigInteger a : numbers) {
+            for (BigInteger b : numbers) {
+                Tongue t = new Tongue();
+                t.is("($define! a " + a + ") ($define! b " + b + ") (list (+ a b) (- a b) (* a b) (gcd a b) (<? a b) (=? a b) (eq? a b))",
+                    "(" + a.add(b) + " " + a.subtract(b) + " " + a.multiply(b) + " " + a.gcd(b) + (a.compareTo(b) < 0 ? " #t" : " #f")
+                    + (a.equals(b) ? " #t #t)" : " #f #f)"));
+                if (b.signum() != 0) {
+                    t.is("(list (div a b) (mod a b))", "(" + down(a, b) + " " + a.subtract(b.multiply(down(a, b))) + ")");
+                    due(t, "(/ a b)", a, b);
+                }
+            }
+        }
     }
 
     private static BigInteger big(Random random) {
