@@ -479,6 +479,8 @@ public final class EdgesOfApplicativesTest {
             t.is("(equal? (list (nest " + n + " 1 2) 7) (list (nest " + n + " 1 2) 8))", "#f");
             t = Tongue.with(d);
             t.is("(equal? (nest " + n + " 1 2) (nest " + n + " 1 3))", "#f");
+            t = Tongue.with(d);
+            t.is("(equal? (nest " + n + " (list 1 2) 5) (nest " + n + " (list 1 3) 5))", "#f");
         }
     }
 

@@ -376,6 +376,17 @@ public final class EdgesOfReadingTest {
         t.faults("($quote " + "(a . ".repeat(99) + "(b)", 8 + 495);
         t.is("($quote " + "(".repeat(98) + "#1=(a)" + ")".repeat(98) + ")", "(".repeat(99) + "a" + ")".repeat(99));
         t.faults("($quote " + "(".repeat(99) + "#1=(a)", 8 + 99 + 3);
+        // The hundredth is a list like the others.
+        String deep = "($quote " + "(".repeat(98);
+        t.is(deep + "(a . b)" + ")".repeat(99), "(".repeat(99) + "a . b" + ")".repeat(99));
+        t.faults(deep + "(a . b c", 106 + 7);
+        t.faults(deep + "(a . b (c", 106 + 7);
+        t.faults(deep + "(a . b \"\\q\"", 106 + 7);
+        t.faults(deep + "(a . )", 106 + 5);
+        t.faults(deep + "(a . . b", 106 + 5);
+        t.faults(deep + "(. b", 106 + 1);
+        t.faults(deep + "#1=()", 106 + 4);
+        t.faults(deep + "(a . b", 106 + 6);
         // In strings and remarks there are none.
         t.is("(string-length \"" + "(".repeat(101) + "\")", "101");
         Tongue.due("in a remark", t.run("1 ;" + "(".repeat(101) + "\n2"), 2);

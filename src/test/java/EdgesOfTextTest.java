@@ -210,6 +210,10 @@ public final class EdgesOfTextTest {
         Tongue.due("shown", t.out(), "s".repeat(1000) + "... " + "s".repeat(1000) + "... 1");
         t.run("(write s ($quote a))");
         Tongue.due("written", t.out(), "\"" + "s".repeat(999) + "... a");
+        t.run("(show (list 1 (list s 2)) 3 (list 4 5)) (write 6)");
+        Tongue.due("what was cut is not gone on with", t.out(), "(1 (" + "s".repeat(996) + "... 3 (4 5)6");
+        t.run("(write (list 1 (list s 2))) (write (list 7)) ($guard (error (list s 1) 2) ($lambda (m) (show 8))) (show (list 9))");
+        Tongue.due("nor behind a message", t.out(), "(1 (\"" + "s".repeat(995) + "...(7)8(9)");
         t.run("(show (list s s))");
         Tongue.due("shown in a list", t.out(), "(" + "s".repeat(999) + "...");
     }

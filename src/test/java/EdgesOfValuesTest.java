@@ -491,15 +491,26 @@ public final class EdgesOfValuesTest {
         Tongue t = Tongue.with("($define! v (make-environment))" + longOf("v") + "($define! w (make-environment)) ($set! w x 5)");
         t.is("(eval ($quote x) (apply make-environment (append (cdr l) (list w))))", "5");
         t.fails("(eval ($quote y) (apply make-environment (append (cdr l) (list w))))", "unbound: y");
+        Tongue s = Tongue.with("($define! v (make-environment))" + longOf("v") + "($define! w (make-environment)) ($set! w x 5)");
+        s.is("(eval ($quote x) (apply make-environment (list* v w (cddr l))))", "5");
+        s.fails("(eval ($quote x) (make-environment v v v))", "unbound: x");
+        s.fails("(eval ($quote x) v)", "unbound: x");
+        s.is("(eval ($quote x) (make-environment v v w))", "5");
+        s.fails("(eval ($quote x) v)", "unbound: x");
         // Whichever of many it is; those that wait behind a parent with many parents, too.
         Tongue p = Tongue.with("($define! v (make-environment)) ($define! w (make-environment)) ($set! w x 5) ($set! v y 1)" + longOf("(make-environment)"));
         for (int at : new int[] {0, 1, 2, 62, 63, 64, 65, 66, 99}) {
             p.is("(eval ($quote x) (apply make-environment (append (list-tail b " + (100 - at) + ") (list w) b)))", "5");
         }
-        p.is("($define! many (apply make-environment b)) (eval ($quote x) (make-environment many v w))", "5");
-        p.is("(eval ($quote x) (make-environment (make-environment many many) many (make-environment v many w)))", "5");
-        p.is("(eval ($quote (list x y)) (make-environment many (make-environment many v) (make-environment w) ($current)))", "(5 1)");
-        p.is("($define! z 9) (eval ($quote (list x z)) (make-environment (apply make-environment (append b (list w))) many ($current)))", "(5 9)");
+        String[] texts = {"(eval ($quote x) (make-environment many v w))", "(eval ($quote y) (make-environment many v w))",
+            "(eval ($quote x) (make-environment (make-environment many many) many (make-environment v many w)))",
+            "(eval ($quote x) (make-environment (make-environment many v) w))", "(eval ($quote y) (make-environment (make-environment many w) many v))"};
+        String[] values = {"5", "1", "5", "5", "1"};
+        for (int i = 0; i < texts.length; i++) {
+            Tongue q = Tongue.with("($define! v (make-environment)) ($define! w (make-environment)) ($set! w x 5) ($set! v y 1)" + longOf("(make-environment)")
+                + "($define! many (apply make-environment b))");
+            q.is(texts[i], values[i]);
+        }
         // A long row of children.
         Tongue u = Tongue.with("($define! down ($lambda (n e) ($if (zero? n) e (down (- n 1) (make-environment e))))) ($define! top (make-environment))"
             + " ($set! top x 6) ($define! low (down 900 top))");
