@@ -65,7 +65,7 @@ public final class EdgesOfPassingTest {
     private static void whichExitHasK() {
         String all = "(call/cc ($lambda (k) (list 1 (call/cc ($lambda (j) (list 2 (call/cc ($lambda (i) (guard-dynamic-extent () ($lambda () (throw TO 0))"
             + " (list (list CLAUSE ($lambda (v d) 9))))))))))))";
-        // k has fewer frames than j, j fewer than i: a clause of one has that one and those with more.
+        // k is as empty as root, j has more frames, i still more: a clause of one has that one and those with more.
         String[] names = {"root", "k", "j", "i"};
         String[] plain = {"0", "0", "(1 0)", "(1 (2 0))"};
         String[] caught = {"9", "9", "(1 9)", "(1 (2 9))"};

@@ -54,11 +54,23 @@ public final class EdgesOfReadingTest {
                 Tongue.due("byte " + c, t.run(text), bound);
                 Tongue.due("state of byte " + c, t.x.state(), 1 - bound);
             }
-            Tongue u = new Tongue();
-            Tongue.due("byte " + c + " between data", u.run("5" + text + "6"), isBlank(c) ? 2 : c == ';' ? 1
-                : c == '(' ? -2 - 3 : c == '"' || c == ')' || !inWord(c) ? -3
-                : c == '.' || c == '/' || c >= '0' && c <= '9' ? (c == '.' ? 0 : 1) : 0);
+            Tongue.due("byte " + c + " between data", new Tongue().run("5" + text + "6"), between(c));
         }
+    }
+
+    /** The answer to a run of 5, the byte, and 6. */
+    private static int between(int c) {
+        if (isBlank(c)) {
+            return 2;
+        }
+        if (c == '(') {
+            return -2 - 3;
+        }
+        if (c == '"' || c == ')' || c < 33 || c > 126) {
+            return -2 - 1;
+        }
+        // One number, or 5 and a remark; else a symbol, which means nothing.
+        return c == ';' || c == '/' || c >= '0' && c <= '9' ? 1 : 0;
     }
 
     /** "WORDS, rows of bytes 33 .. 126 but ( ) \" ;" */
