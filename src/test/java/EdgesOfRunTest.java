@@ -22,6 +22,7 @@ public final class EdgesOfRunTest {
         fuelOneByOne();
         errorsEndARun();
         endsLeaveWhatWasDone();
+        whatIsRefusedMakesNothing();
         globalAndGround();
         Tongue.close();
     }
@@ -433,6 +434,34 @@ public final class EdgesOfRunTest {
         u.run("($define! a 2) \"\" ($define! c 3)");
         Tongue.due("state", u.x.state(), 3);
         Tongue.due("bindings", u.x.bindings(), 2);
+    }
+
+    /** An error counts what was read, and the arguments' list; nothing is made, bound or put out. */
+    private static void whatIsRefusedMakesNothing() {
+        String d = E + "($define! h \"" + "h".repeat(500) + "\") ($define! l (list 1 2 3)) ($define! m (+ (expt 2 2047) (- (expt 2 2047) 1))) ($define! c (list root list))";
+        String[] texts = {"(string-append h h \"1\")", "(string-append h 5)", "(make-environment e 5)", "(append l 5 l)", "(reverse 5)", "(map list l 5)", "(map list l ())", "(map $if l)",
+            "(* m m)", "(+ m 1)", "(/ m 0)", "(expt m 10001)", "(wrap 5)", "(extend-continuation root 5)", "(extend-continuation root list 5)", "(continuation->applicative 5)", "(call/cc 5)",
+            "(throw 5 1)", "(guard-dynamic-extent () 5 ())", "(guard-dynamic-extent l list ())", "(apply 5 ())", "(apply list () 5)", "(eval 1 5)", "(cons 1)", "(list-tail l 4)",
+            "(symbol->string \"a\")", "(number->string 5 1)", "(string->symbol \"\")", "(string->number 5)", "(memoize)", "(make-capsule 1)", "(make-dynamic 1)", "(make-static 1)", "(write . 5)",
+            "(newline 1)", "($lazy)", "($vau (a a) e 1)", "($vau a 5 1)", "($lambda 5)", "($let ((a 1)) . 5)", "($let ((a nothing)) 1)", "($let ((a 1) (b)) 1)", "($define! a nothing)",
+            "($define! (a b) 5)", "($define! (a a) l)", "($set! 5 a 1)", "($set! e (a . ()) 1)", "($if 5 (write 1) (write 2))", "($cond (5 1))", "($guard (write 1) 5)", "(set-car! ($quote (1)) 5)"};
+        int[] made = {4 + 2 + 3, 3 + 2, 3 + 2, 4 + 3, 2 + 1, 4 + 3, 4 + 3, 3 + 2,
+            3 + 2, 3 + 2, 3 + 2, 3 + 2, 2 + 1, 3 + 2, 4 + 3, 2 + 1, 2 + 1,
+            3 + 2, 4 + 3, 4 + 3, 3 + 2, 4 + 3, 3 + 2, 2 + 1, 3 + 2,
+            2 + 2 + 1, 3 + 2, 2 + 1 + 1, 2 + 1, 1, 2 + 1, 2 + 1, 2 + 1, 1,
+            2 + 1, 1, 4 + 2, 4, 2, 2 + 1 + 2, 3 + 1 + 2, 3 + 2 + 2 + 1, 3,
+            3 + 2, 3 + 2, 4, 4 + 1, 4 + 2 + 2, 2 + 2, 3 + 2, 3 + 2 + 1 + 2};
+        for (int i = 0; i < texts.length; i++) {
+            Tongue t = Tongue.with(d);
+            int madeBefore = t.x.made();
+            int bindings = t.x.bindings();
+            t.run(texts[i]);
+            Tongue.due("state of " + texts[i], t.x.state(), 1);
+            Tongue.due("made of " + texts[i], t.x.made() - madeBefore, made[i]);
+            Tongue.due("bindings of " + texts[i], t.x.bindings(), bindings);
+            Tongue.due("out of " + texts[i], t.x.out(), 0);
+            t.is("(list l c (string-length h))", "((1 2 3) (#continuation #applicative) 500)");
+        }
     }
 
     /** "the GLOBAL environment (a child of the GROUND's, ... and is there for all runs)" */
